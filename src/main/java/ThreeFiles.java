@@ -265,7 +265,7 @@ public final class ThreeFiles {
         return count;
     }
 
-    /** The row that comes next: its stripe is a new one when its number is even. */
+    /** An even answer means a new stripe, for which there may be no room. */
     private int nextRow() {
         int end = stripeCount() * ROWS_A_STRIPE;
         return end > 0 && isFree(end - 1) ? end - 1 : end;
@@ -275,7 +275,7 @@ public final class ThreeFiles {
         return goodPieces(row / ROWS_A_STRIPE) == FILES && readRowByte(row, YEAR_AT) == EMPTY_YEAR;
     }
 
-    /** Writes the piece of a row: its contents are the first so many of the bytes fed. */
+    /** The contents are the first so many of the bytes fed: none for an empty or dropped row. */
     private void writeRow(int row, int year, int length) {
         int stripe = row / ROWS_A_STRIPE;
         int start = stripe * PIECE_SIZE;
@@ -398,7 +398,7 @@ public final class ThreeFiles {
                     && hasSum(start, sum(start));
         }
 
-        /** Makes a piece good: writes its number and, over all that stands in it then, its sum. */
+        /** To be called when the rest of a piece stands: its sum is over all of that and its number. */
         private void seal(int piece) {
             int start = piece * PIECE_SIZE;
             set(start, lowByte(piece));
@@ -425,7 +425,7 @@ public final class ThreeFiles {
             int s = SUM_START + number;
             for (int i = 0; i < SUM_AT; i++) {
                 s ^= get(start + i);
-                s = (s << SUM_TURN | s >>> INT_BITS - SUM_TURN) * SUM_FACTOR;
+                s = ((s << SUM_TURN) | (s >>> (INT_BITS - SUM_TURN))) * SUM_FACTOR;
             }
             return s;
         }

@@ -60,7 +60,7 @@ public final class MendTest {
         }
         CHECKS.due("mended()", x.mended(), 0);
         CHECKS.due("the next row", Checks.add(x, 1, "z"), 4);
-        CHECKS.duePiece(x, 2, 2, 2, 1 , 1, 'z', 0);
+        CHECKS.duePiece(x, 2, 2, 2, 1, 1, 'z', 0);
         x.crash(0, 23);
         x.crash(1, 23);
         x.crash(2, 23);
@@ -170,7 +170,7 @@ public final class MendTest {
         CHECKS.due("mended()", x.mended(), 2);
         int next = Integer.MAX_VALUE % 6;
         x.poke(next % 3, next / 3 * 24, 1);
-        CHECKS.due("scrub(5 of a round and MAX ends 1 on)", x.scrub(1), 1);
+        CHECKS.due("scrub(1) where MAX pieces ended", x.scrub(1), 1);
         CHECKS.due("mended()", x.mended(), 3);
         CHECKS.due("scrub(MAX)", x.scrub(Integer.MAX_VALUE), Integer.MAX_VALUE);
         next = (next + 1 + next) % 6;

@@ -7,6 +7,7 @@ public final class ReadTest {
         find();
         findWithoutOnePiece();
         findOfForgedLengths();
+        aCutByteIsNoZero();
         rows();
         rowsCountNoSumPieces();
         badAt();
@@ -70,6 +71,23 @@ public final class ReadTest {
         Checks.forge(x, 1, 0, 0, 1);
         Checks.forge(x, 1, 0, 1, 1);
         CHECKS.due("a wrong high byte of the number", x.find(0, 0), -1);
+    }
+
+    /** A byte that is cut off reads 0, but a piece without it is not good, even if it was 0. */
+    private static void aCutByteIsNoZero() {
+        int tried = 0;
+        ThreeFiles x;
+        do {
+            x = new ThreeFiles(1);
+            Checks.add(x, 1, "a" + (char) (tried % 256) + (char) (tried / 256));
+            tried++;
+        } while (x.byteAt(1, 0, 23) != 0 && tried < 65536);
+        CHECKS.due("a piece whose last byte is 0", x.byteAt(1, 0, 23), 0);
+        x.poke(0, 4, 1);
+        CHECKS.due("find(0, 0) of the whole piece", x.find(0, 0), 'a');
+        x.crash(1, 23);
+        CHECKS.due("find(0, 0) of the cut piece", x.find(0, 0), -1);
+        CHECKS.due("badAt() with the cut piece", x.badAt(), 1);
     }
 
     private static void rows() {
